@@ -412,7 +412,6 @@ public final class HillBeacons {
             east = other.east;
             post = other.post;
             fire = other.fire;
-            fireBefore = other.fireBefore;
             left = other.left;
             looking = other.looking;
             source = other.source;

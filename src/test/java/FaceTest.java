@@ -16,7 +16,7 @@ public final class FaceTest {
         facesAgree();
         nothingElseIsOpen();
         sourceKeepsOff();
-        otherCallsMakeNoObjects();
+        dearCallsMakeNoObjects();
         Expect.end();
     }
 
@@ -105,8 +105,8 @@ public final class FaceTest {
         }
     }
 
-    /** All calls of a run share one room: it must not fill, whichever call comes 512 times. */
-    private static void otherCallsMakeNoObjects() {
+    /** All calls of a run share one room: it must not fill, even by the dearest. */
+    private static void dearCallsMakeNoObjects() {
         com.sun.management.ThreadMXBean counter = (com.sun.management.ThreadMXBean)
                 java.lang.management.ManagementFactory.getThreadMXBean();
         HillBeacons land = new HillBeacons();

@@ -3,6 +3,7 @@ public final class ForecastTest {
     public static void main(String[] args) {
         promise35MinutesUntilBurning();
         promise35WaitsFor150Minutes();
+        promises35To37GoOnFromNow();
         promise36BurningAfter();
         promise37ReachOf();
         promise37ReachOfLooks100Minutes();
@@ -57,6 +58,30 @@ public final class ForecastTest {
             Expect.same("by the glow, hill " + i, byGlow.minutesUntilBurning(i), 15 + 15 * i);
         }
         Expect.same("no minute went by", byGlow.minute(), 0);
+    }
+
+    private static void promises35To37GoOnFromNow() {
+        HillBeacons land = lineOf(2, 30, 0, 4);
+        land.light(0);
+        land.passMinutes(3);
+        Expect.same("looking already", land.lookingFor(1), 2);
+        Expect.same("the watch goes on", land.minutesUntilBurning(1), 3);
+        Expect.same("burning after 2", land.burningAfter(2), 1);
+        Expect.same("burning after 3", land.burningAfter(3), 2);
+        land.setHaze(8);
+        Expect.same("not in the haze", land.minutesUntilBurning(1), -1);
+        Expect.same("burning in the haze", land.burningAfter(3), 1);
+        Expect.same("reach in the haze", land.reachOf(1), 1);
+        land.setHaze(7);
+        Expect.same("in less haze", land.minutesUntilBurning(1), 3);
+        land.douse(0);
+        Expect.same("reach in less haze", land.reachOf(0), 2);
+        Expect.same("a forecast leaves nothing to the next", land.minutesUntilBurning(1), -1);
+        land.turnEast(1);
+        land.glow(2);
+        Expect.same("the glow goes on", land.minutesUntilBurning(1), 3);
+        land.glow(1);
+        Expect.same("a shorter one is not enough", land.minutesUntilBurning(1), -1);
     }
 
     private static void promise36BurningAfter() {
