@@ -14,8 +14,14 @@ final class Expect {
 
     private static int compared = 0;
     private static int wrong = 0;
+    private static String about = "";
 
     private Expect() {
+    }
+
+    /** What the comparisons from now on are about is told with those that are wrong. */
+    static void about(String words) {
+        about = " [" + words + "]";
     }
 
     static void same(String what, long got, long due) {
@@ -65,9 +71,18 @@ final class Expect {
         same(what + ", in the digest,", land.digest(), before);
     }
 
+    /** Two lands must be the same, now and behind each of the minutes until all is dark. */
+    static void sameFromNowOn(String what, HillBeacons one, HillBeacons other) {
+        for (int i = 0; i < 45; i++) {
+            same(what + ", in the digest " + i + " minutes later,", one.digest(), other.digest());
+            one.passMinutes(1);
+            other.passMinutes(1);
+        }
+    }
+
     static void fail(String what) {
         wrong++;
-        System.out.println("WRONG: " + what);
+        System.out.println("WRONG: " + what + about);
     }
 
     static void end() {

@@ -109,20 +109,14 @@ public final class FaceTest {
     private static void dearCallsMakeNoObjects() {
         com.sun.management.ThreadMXBean counter = (com.sun.management.ThreadMXBean)
                 java.lang.management.ManagementFactory.getThreadMXBean();
-        HillBeacons land = new HillBeacons();
-        for (int i = 0; i < 10; i++) {
-            land.addHill(30, 9, 5);
-        }
-        for (int i = 1; i < 10; i++) {
-            land.setSight(i - 1, i, 5);
-        }
-        dearCalls(land);
+        dearCalls(Lands.lineOf(10, 30, 9, 5));
+        HillBeacons land = Lands.lineOf(10, 30, 9, 5);
         long before = counter.getCurrentThreadAllocatedBytes();
-        for (int i = 0; i < 512; i++) {
+        for (int i = 0; i < 80; i++) {
             dearCalls(land);
         }
         long bytes = counter.getCurrentThreadAllocatedBytes() - before;
-        Expect.same("512 dear calls made " + bytes + " bytes", bytes < 50_000, true);
+        Expect.same("480 dear calls made " + bytes + " bytes", bytes < 8_000, true);
     }
 
     private static void dearCalls(HillBeacons land) {

@@ -15,19 +15,8 @@ public final class ForecastTest {
         Expect.end();
     }
 
-    private static HillBeacons lineOf(int hills, int wood, int damp, int watch) {
-        HillBeacons land = new HillBeacons();
-        for (int i = 0; i < hills; i++) {
-            land.addHill(wood, damp, watch);
-        }
-        for (int i = 1; i < hills; i++) {
-            land.setSight(i - 1, i, 5);
-        }
-        return land;
-    }
-
     private static void promise35MinutesUntilBurning() {
-        HillBeacons land = lineOf(4, 20, 2, 2);
+        HillBeacons land = Lands.lineOf(4, 20, 2, 2);
         land.setSight(2, 3, 0);
         Expect.same("nothing is lit", land.minutesUntilBurning(0), -1);
         land.light(0);
@@ -46,12 +35,12 @@ public final class ForecastTest {
 
     private static void promise35WaitsFor150Minutes() {
         // Of the slowest hills, each takes 15 minutes behind the one before it.
-        HillBeacons byHand = lineOf(10, 30, 9, 5);
+        HillBeacons byHand = Lands.lineOf(10, 30, 9, 5);
         byHand.light(0);
         for (int i = 0; i < 10; i++) {
             Expect.same("by hand, hill " + i, byHand.minutesUntilBurning(i), 10 + 15 * i);
         }
-        HillBeacons byGlow = lineOf(10, 30, 9, 5);
+        HillBeacons byGlow = Lands.lineOf(10, 30, 9, 5);
         byGlow.turnEast(0);
         byGlow.glow(5);
         for (int i = 0; i < 10; i++) {
@@ -61,7 +50,7 @@ public final class ForecastTest {
     }
 
     private static void promises35To37GoOnFromNow() {
-        HillBeacons land = lineOf(2, 30, 0, 4);
+        HillBeacons land = Lands.lineOf(2, 30, 0, 4);
         land.light(0);
         land.passMinutes(3);
         Expect.same("looking already", land.lookingFor(1), 2);
@@ -85,7 +74,7 @@ public final class ForecastTest {
     }
 
     private static void promise36BurningAfter() {
-        HillBeacons land = lineOf(3, 3, 0, 1);
+        HillBeacons land = Lands.lineOf(3, 3, 0, 1);
         land.light(0);
         int[] due = {1, 1, 2, 1, 2, 1, 1, 0, 0};
         Expect.unchanged("burningAfter", land, () -> land.burningAfter(9));
@@ -101,7 +90,7 @@ public final class ForecastTest {
     }
 
     private static void promise37ReachOf() {
-        HillBeacons land = lineOf(5, 20, 0, 1);
+        HillBeacons land = Lands.lineOf(5, 20, 0, 1);
         Expect.unchanged("reachOf", land, () -> land.reachOf(0));
         Expect.same("reach along the line", land.reachOf(0), 5);
         Expect.same("reach from the middle", land.reachOf(2), 5);
@@ -110,11 +99,11 @@ public final class ForecastTest {
         Expect.same("reach of three", land.reachOf(4), 3);
         land.setSight(0, 1, 0);
         Expect.same("reach of one", land.reachOf(0), 1);
-        HillBeacons brief = lineOf(3, 1, 0, 1);
+        HillBeacons brief = Lands.lineOf(3, 1, 0, 1);
         Expect.same("those count that burn only for a while", brief.reachOf(0), 3);
-        HillBeacons slow = lineOf(3, 1, 0, 3);
+        HillBeacons slow = Lands.lineOf(3, 1, 0, 3);
         Expect.same("a short fire is not looked at for long enough", slow.reachOf(0), 1);
-        HillBeacons two = lineOf(3, 30, 0, 1);
+        HillBeacons two = Lands.lineOf(3, 30, 0, 1);
         two.light(2);
         Expect.same("of fires as near, the smaller number is the source", two.reachOf(0), 2);
         two.setSight(0, 1, 6);
@@ -123,7 +112,7 @@ public final class ForecastTest {
 
     private static void promise37ReachOfLooks100Minutes() {
         // Lit by hand, the slowest hills burn behind 10, 25, 40, 55, 70 and 85 minutes.
-        HillBeacons land = lineOf(7, 30, 9, 5);
+        HillBeacons land = Lands.lineOf(7, 30, 9, 5);
         Expect.same("the seventh burns behind 100", land.reachOf(0), 7);
         land.setDamp(6, 7);
         land.addHill(30, 0, 1);
@@ -134,13 +123,13 @@ public final class ForecastTest {
     }
 
     private static void promise37ReachOfCountsWhatBurnsAlready() {
-        HillBeacons land = lineOf(2, 30, 0, 1);
+        HillBeacons land = Lands.lineOf(2, 30, 0, 1);
         land.light(0);
         land.passMinutes(3);
         land.douse(0);
         land.setSight(0, 1, 0);
         Expect.same("a fire of an earlier signal", land.reachOf(0), 2);
-        HillBeacons last = lineOf(2, 1, 0, 1);
+        HillBeacons last = Lands.lineOf(2, 1, 0, 1);
         last.bringWood(0, 5);
         last.light(0);
         last.passMinutes(3);
@@ -151,23 +140,23 @@ public final class ForecastTest {
     }
 
     private static void promise37ReachOfRefuses() {
-        HillBeacons land = lineOf(2, 5, 1, 1);
+        HillBeacons land = Lands.lineOf(2, 5, 1, 1);
         Expect.refusesOtherHills("reachOf", land, hill -> land.reachOf(hill));
         land.light(0);
         Expect.refused("reachOf a kindling hill", Expect.BAD_STATE, land, () -> land.reachOf(0));
         land.passMinutes(2);
         Expect.refused("reachOf a burning hill", Expect.BAD_STATE, land, () -> land.reachOf(0));
-        HillBeacons bare = lineOf(1, 0, 0, 1);
+        HillBeacons bare = Lands.lineOf(1, 0, 0, 1);
         Expect.refused("reachOf without wood", Expect.BAD_STATE, bare, () -> bare.reachOf(0));
     }
 
     private static void promise38BestHill() {
-        HillBeacons land = lineOf(5, 20, 0, 1);
+        HillBeacons land = Lands.lineOf(5, 20, 0, 1);
         Expect.unchanged("bestHill", land, () -> land.bestHill());
         Expect.same("all reach all", land.bestHill(), 0);
         land.setSight(1, 2, 0);
         Expect.same("the longer part", land.bestHill(), 2);
-        HillBeacons thin = lineOf(3, 1, 0, 2);
+        HillBeacons thin = Lands.lineOf(3, 1, 0, 2);
         Expect.same("each reaches itself alone", thin.bestHill(), 0);
         thin.bringWood(2, 1);
         Expect.same("the one with more wood", thin.bestHill(), 2);
@@ -177,7 +166,7 @@ public final class ForecastTest {
         Expect.same("the last that can be lit", thin.bestHill(), 1);
         thin.light(1);
         Expect.same("none can be lit", thin.bestHill(), -1);
-        Expect.same("none without wood", lineOf(10, 0, 0, 1).bestHill(), -1);
+        Expect.same("none without wood", Lands.lineOf(10, 0, 0, 1).bestHill(), -1);
         Expect.same("none without hills", new HillBeacons().bestHill(), -1);
     }
 
@@ -192,7 +181,7 @@ public final class ForecastTest {
         Expect.same("mean of 5, 6 and 0", land.meanWood(), 11.0 / 3.0);
         land.light(0);
         Expect.same("mean as one is lit", land.meanWood(), 10.0 / 3.0);
-        Expect.same("mean of 0", lineOf(3, 0, 0, 1).meanWood(), 0.0);
+        Expect.same("mean of 0", Lands.lineOf(3, 0, 0, 1).meanWood(), 0.0);
     }
 
     private static void promise40Digest() {

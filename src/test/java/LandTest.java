@@ -16,11 +16,7 @@ public final class LandTest {
     }
 
     private static HillBeacons landOf(int hills) {
-        HillBeacons land = new HillBeacons();
-        for (int i = 0; i < hills; i++) {
-            land.addHill(10, 0, 1);
-        }
-        return land;
+        return Lands.of(hills, 10, 0, 1);
     }
 
     private static void promise1NewObject() {

@@ -18,11 +18,7 @@ public final class QuestionTest {
     }
 
     private static HillBeacons landOf(int hills) {
-        HillBeacons land = new HillBeacons();
-        for (int i = 0; i < hills; i++) {
-            land.addHill(20, 0, 1);
-        }
-        return land;
+        return Lands.of(hills, 20, 0, 1);
     }
 
     private static void promises13To17HillsThemselves() {
@@ -58,8 +54,8 @@ public final class QuestionTest {
     }
 
     private static void promise19CanSee() {
-        HillBeacons land = landOf(2);
         for (int haze = 0; haze <= 9; haze++) {
+            HillBeacons land = landOf(2);
             land.setHaze(haze);
             for (int miles = 0; miles <= 20; miles++) {
                 land.setSight(0, 1, miles);
@@ -68,8 +64,8 @@ public final class QuestionTest {
                 Expect.same(what, land.canSee(0, 1), due);
                 Expect.same(what + ", back", land.canSee(1, 0), due);
             }
+            Expect.same("canSee of one hill", land.canSee(1, 1), false);
         }
-        Expect.same("canSee of one hill", land.canSee(1, 1), false);
     }
 
     private static void promise20FewestSteps() {

@@ -22,14 +22,6 @@ public final class SignalTest {
         Expect.end();
     }
 
-    private static HillBeacons landOf(int hills, int wood, int damp, int watch) {
-        HillBeacons land = new HillBeacons();
-        for (int i = 0; i < hills; i++) {
-            land.addHill(wood, damp, watch);
-        }
-        return land;
-    }
-
     private static void promise9Light() {
         HillBeacons land = new HillBeacons();
         land.addHill(10, 0, 1);
@@ -49,7 +41,7 @@ public final class SignalTest {
         Expect.same("1 burns after 9", land.isBurning(1), false);
         land.passMinutes(1);
         Expect.same("1 burns after 10", land.isBurning(1), true);
-        HillBeacons looking = landOf(1, 5, 0, 5);
+        HillBeacons looking = Lands.of(1, 5, 0, 5);
         looking.turnEast(0);
         looking.glow(4);
         looking.passMinutes(4);
@@ -59,7 +51,7 @@ public final class SignalTest {
     }
 
     private static void promise9LightAnswersAnew() {
-        HillBeacons land = landOf(2, 20, 0, 1);
+        HillBeacons land = Lands.of(2, 20, 0, 1);
         land.setSight(0, 1, 5);
         land.turnPost(1);
         land.light(0);
@@ -73,21 +65,21 @@ public final class SignalTest {
     }
 
     private static void promise9LightRefuses() {
-        HillBeacons land = landOf(2, 1, 1, 1);
+        HillBeacons land = Lands.of(2, 1, 1, 1);
         Expect.refusesOtherHills("light", land, hill -> land.light(hill));
         land.light(0);
         Expect.refused("light of a kindling hill", Expect.BAD_STATE, land, () -> land.light(0));
         land.bringWood(0, 5);
         land.passMinutes(2);
         Expect.refused("light of a burning hill", Expect.BAD_STATE, land, () -> land.light(0));
-        HillBeacons bare = landOf(1, 0, 0, 1);
+        HillBeacons bare = Lands.of(1, 0, 0, 1);
         Expect.refused("light without wood", Expect.BAD_STATE, bare, () -> bare.light(0));
         bare.bringWood(0, 1);
         Expect.same("light with wood", bare.light(0), 1);
     }
 
     private static void promise10Douse() {
-        HillBeacons land = landOf(2, 7, 3, 1);
+        HillBeacons land = Lands.of(2, 7, 3, 1);
         land.light(0);
         land.passMinutes(1);
         Expect.same("douse of a kindling hill", land.douse(0), 6);
@@ -107,7 +99,7 @@ public final class SignalTest {
     }
 
     private static void promise10DouseRefuses() {
-        HillBeacons land = landOf(2, 2, 0, 1);
+        HillBeacons land = Lands.of(2, 2, 0, 1);
         Expect.refusesOtherHills("douse", land, hill -> land.douse(hill));
         Expect.refused("douse of a dark hill", Expect.BAD_STATE, land, () -> land.douse(1));
         land.light(1);
@@ -116,7 +108,7 @@ public final class SignalTest {
     }
 
     private static void promise11Glow() {
-        HillBeacons land = landOf(1, 5, 0, 1);
+        HillBeacons land = Lands.of(1, 5, 0, 1);
         Expect.same("glow(30)", land.glow(30), 0);
         Expect.same("glow left", land.glowLeft(), 30);
         land.passMinutes(5);
@@ -132,7 +124,7 @@ public final class SignalTest {
     }
 
     private static void promise12PassMinutes() {
-        HillBeacons land = landOf(4, 20, 0, 1);
+        HillBeacons land = Lands.of(4, 20, 0, 1);
         for (int i = 0; i < 3; i++) {
             land.setSight(i, i + 1, 20);
         }
@@ -180,7 +172,7 @@ public final class SignalTest {
     }
 
     private static void promise12LookingIsInterrupted() {
-        HillBeacons land = landOf(2, 20, 0, 3);
+        HillBeacons land = Lands.of(2, 20, 0, 3);
         land.setSight(0, 1, 5);
         land.light(0);
         land.passMinutes(3);
@@ -200,7 +192,7 @@ public final class SignalTest {
     }
 
     private static void promise12OnlyWhatBurnsAsTheMinuteBegins() {
-        HillBeacons land = landOf(3, 1, 0, 1);
+        HillBeacons land = Lands.of(3, 1, 0, 1);
         land.setSight(0, 1, 5);
         land.setSight(1, 2, 5);
         land.light(0);
@@ -216,7 +208,7 @@ public final class SignalTest {
     }
 
     private static void promise12NearestFireIsTheSource() {
-        HillBeacons land = landOf(5, 30, 0, 1);
+        HillBeacons land = Lands.of(5, 30, 0, 1);
         land.setSight(4, 1, 6);
         land.setSight(4, 2, 5);
         land.setSight(4, 3, 5);
@@ -236,7 +228,7 @@ public final class SignalTest {
     }
 
     private static void promise12OnlySeenFiresAreSources() {
-        HillBeacons land = landOf(4, 30, 0, 1);
+        HillBeacons land = Lands.of(4, 30, 0, 1);
         land.setSight(0, 3, 20);
         land.setSight(1, 3, 19);
         land.setSight(2, 3, 1);
@@ -251,7 +243,7 @@ public final class SignalTest {
     }
 
     private static void promise12MistakesSpread() {
-        HillBeacons land = landOf(3, 30, 0, 1);
+        HillBeacons land = Lands.of(3, 30, 0, 1);
         land.turnEast(0);
         land.setSight(0, 1, 3);
         land.setSight(1, 2, 3);
@@ -266,7 +258,7 @@ public final class SignalTest {
     }
 
     private static void promise12SourceIsTakenAsTheHillIsLit() {
-        HillBeacons land = landOf(3, 30, 0, 1);
+        HillBeacons land = Lands.of(3, 30, 0, 1);
         land.setSight(0, 1, 3);
         land.setSight(1, 2, 3);
         land.light(0);
@@ -279,7 +271,7 @@ public final class SignalTest {
         Expect.same("and the signal comes back from there", land.sourceOf(1), 0);
         land.passMinutes(2);
         Expect.same("to the hill itself", land.sourceOf(0), 0);
-        HillBeacons both = landOf(2, 30, 0, 1);
+        HillBeacons both = Lands.of(2, 30, 0, 1);
         both.turnEast(1);
         both.setSight(0, 1, 3);
         both.light(0);
@@ -290,7 +282,7 @@ public final class SignalTest {
     }
 
     private static void promise12WoodBurnsDown() {
-        HillBeacons land = landOf(1, 3, 1, 1);
+        HillBeacons land = Lands.of(1, 3, 1, 1);
         land.light(0);
         Expect.same("wood as it kindles", land.woodOf(0), 2);
         land.passMinutes(2);
@@ -307,7 +299,7 @@ public final class SignalTest {
     }
 
     private static void promise12HazeHidesFires() {
-        HillBeacons land = landOf(2, 30, 0, 1);
+        HillBeacons land = Lands.of(2, 30, 0, 1);
         land.setSight(0, 1, 15);
         land.setHaze(3);
         land.light(0);
@@ -318,7 +310,7 @@ public final class SignalTest {
     }
 
     private static void promise12Posts() {
-        HillBeacons land = landOf(4, 30, 1, 1);
+        HillBeacons land = Lands.of(4, 30, 1, 1);
         land.setSight(0, 1, 5);
         land.setSight(0, 2, 5);
         land.setSight(0, 3, 5);
@@ -332,12 +324,12 @@ public final class SignalTest {
         land.passMinutes(5);
         Expect.same("once each", land.answersTo(0), 2);
         Expect.same("others are not answered", land.answersTo(1), 0);
-        HillBeacons self = landOf(1, 5, 0, 1);
+        HillBeacons self = Lands.of(1, 5, 0, 1);
         self.turnPost(0);
         self.light(0);
         self.passMinutes(1);
         Expect.same("a post lit by hand is its own source", self.answersTo(0), 1);
-        HillBeacons mistake = landOf(1, 5, 0, 1);
+        HillBeacons mistake = Lands.of(1, 5, 0, 1);
         mistake.turnPost(0);
         mistake.turnEast(0);
         mistake.glow(2);
@@ -347,7 +339,7 @@ public final class SignalTest {
     }
 
     private static void promise12Glow() {
-        HillBeacons land = landOf(2, 30, 0, 3);
+        HillBeacons land = Lands.of(2, 30, 0, 3);
         land.turnEast(0);
         land.glow(2);
         land.passMinutes(2);
